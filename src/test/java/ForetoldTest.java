@@ -182,6 +182,9 @@ public final class ForetoldTest {
         elbows(Check.town("q0,0;f99,0;f99,0;f99,0;pf9,0,16;"), 0, none);
         elbows(Check.town("q0,0;pf99,0,0;pf99,0,1;pf99,0,2;"), 0, 0, 0, 0, none);
         elbows(Check.town("q0,0;d1,0;w0,0;d9,0;d9,0;pf9,0,5;"), 0, 2);
+        elbows(Check.town("q1,0;f99,0;pb1,0,2;pf9,0,9;pf9,0,3;"), 0, 1, 1, 7);
+        elbows(Check.town("q0,0;f99,0;pb1,0,2;pf9,0,9;pf9,0,3;"), 0, 1, 2, 7);
+        elbows(Check.town("q1,0;f99,0;pb0,0,3;pf9,0,9;pf9,0,9;"), 0, 2, 8, 8);
         ElbowQueue later = Check.town("q0,0;f99,0;pf99,0,1;pf99,0,3;pf99,0,3;");
         later.minutes(1);
         elbows(later, 0, 1, 1, none);
@@ -252,6 +255,8 @@ public final class ForetoldTest {
         opens(eight, 9, 8, 6);
         opens(eight, 1, 30, 8);
         opens(eight, 6, 17, 8);
+        opens(Check.town("q0,0;f9,0;pf2,0,1;pf9,0,9;"), 1, 2, 2);
+        opens(Check.town("q0,9;f5,0;pf40,0,9;pf40,0,0;pf4,0,0;"), 8, 30, 1);
         ElbowQueue slow = Check.town("q0,1;" + EIGHT);
         opens(slow, 9, 30, 8);
         slow.minutes(3);
@@ -281,6 +286,8 @@ public final class ForetoldTest {
             Check.due("in 6", q.seen(lane, lane + 4, 1), 6);
             Check.due("nobody, in 8", q.seen(lane, 40, 0), 8);
             Check.due("never", q.seen(lane, lane + 1, 3), Check.NONE);
+            q.set(lane, lane, 4);
+            Check.due("another at the door", q.seen(lane, lane, 3), Check.NONE);
         }
         ElbowQueue far = Check.town("q0,0;b99,1;pb99,1,0;pb99,1,9;");
         far.row(0, 0, 0);

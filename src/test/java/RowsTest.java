@@ -44,6 +44,9 @@ public final class RowsTest {
         Check.due("9 is nobody", q.seen(3, 1, 1), Check.BAD);
         q.row(3, 0, 2);
         Check.due("0 again", q.seen(3, 1, 1), 0);
+        q.set(3, 0, 9);
+        q.row(3, 2, 1);
+        Check.due("0 again, the first one", q.seen(3, 0, 1), 0);
     }
 
     private static void promise3() {

@@ -98,6 +98,14 @@ public final class TextsTest {
         Check.person(q, "one more town", 0, 0, 1, 0, 1, 4, 0);
         Check.due("no act", q.undo(), Check.STATE);
         Check.due("nobody else", q.person(1, 0), Check.BAD);
+        q.minutes(2);
+        Check.due("anew", Check.read(q, "q3,0;d4,2;pb9,1,0;"), 2);
+        Check.person(q, "nobody has stood", 0, 0, 1, 0, 2, 4, 0);
+        Check.person(q, "to come", 1, Check.NONE, 0, 0, 1, 9, 1);
+        q.minutes(3);
+        Check.due("passers alone", Check.read(q, "q0,0;pd4,2,0;pb9,1,0;"), 2);
+        Check.person(q, "to come", 0, Check.NONE, 0, 0, 2, 4, 0);
+        Check.person(q, "to come", 1, Check.NONE, 0, 0, 1, 9, 1);
     }
 
     private static void faultOf(String text, int place, int number) {
