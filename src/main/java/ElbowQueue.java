@@ -306,11 +306,13 @@ public final class ElbowQueue {
             return found(NO_PLACE);
         }
         for (int k = 0; k < n; k++) {
-            if (!isPerson(rows.item(row, i + k))) {
+            int one = rows.item(row, i + k);
+            if (!isPerson(one)) {
                 return BAD;
             }
+            foretold.wanted[k] = one;
         }
-        return fine(foretold.whenIsJustSo(rows, row, i, n));
+        return fine(foretold.whenAreJust(n));
     }
 
     public int image(int k) {
@@ -789,6 +791,18 @@ public final class ElbowQueue {
             return size > 0;
         }
 
+        boolean hasJust(int[] wanted, int n) {
+            if (size != n || n > wanted.length) {
+                return false;
+            }
+            for (int k = 0; k < n; k++) {
+                if (queue[k] != wanted[k]) {
+                    return false;
+                }
+            }
+            return true;
+        }
+
         void minuteGoesBy(boolean passerIsThere) {
             tellOn();
             minute++;
@@ -943,6 +957,9 @@ public final class ElbowQueue {
 
     /** What is foretold, on towns of its own, so that nothing changes. */
     private static final class Foretold {
+        private static final int OVER = 0, ONE_IS = 1, ALL_BELIEVE = 2, JUST_WANTED = 3;
+
+        final int[] wanted = new int[MOST_PEOPLE];
         private final Town now;
         private final Town then;
         private final Town till;
@@ -971,19 +988,48 @@ public final class ElbowQueue {
             return then;
         }
 
-        int life() {
-            then.become(now);
-            return lifeOfThen();
-        }
-
-        private int lifeOfThen() {
-            for (int n = 0; n <= FAR; n++) {
-                if (then.isOver()) {
+        /** In how many minutes, as then stands now, it shows a sign first; what is over will show no other. */
+        private int firstMinute(int most, int sign, int a, int b) {
+            for (int n = 0; n <= most; n++) {
+                if (shows(sign, a, b)) {
                     return n;
+                }
+                if (then.isOver()) {
+                    return NONE;
                 }
                 then.minuteGoesBy(true);
             }
             return NONE;
+        }
+
+        private boolean shows(int sign, int a, int b) {
+            switch (sign) {
+                case ONE_IS: return then.where[a] == b;
+                case ALL_BELIEVE: return then.allBelieve(a);
+                case JUST_WANTED: return then.hasJust(wanted, a);
+                default: return then.isOver();
+            }
+        }
+
+        int life() {
+            then.become(now);
+            return firstMinute(FAR, OVER, 0, 0);
+        }
+
+        int whenIs(int one, int state) {
+            then.become(now);
+            return firstMinute(FAR, ONE_IS, one, state);
+        }
+
+        int whenAllBelieve(int word) {
+            then.become(now);
+            return firstMinute(NEAR, ALL_BELIEVE, word, 0);
+        }
+
+        /** The first n of wanted. */
+        int whenAreJust(int n) {
+            then.become(now);
+            return firstMinute(FAR, JUST_WANTED, n, 0);
         }
 
         int bestWord(int one, boolean longest) {
@@ -992,7 +1038,7 @@ public final class ElbowQueue {
             for (int word = 0; word <= MOST_BELIEF; word++) {
                 then.become(now);
                 then.hears(one, word);
-                int life = lifeOfThen();
+                int life = firstMinute(FAR, OVER, 0, 0);
                 if (life == NONE) {
                     life = FAR + 1;
                 }
@@ -1002,34 +1048,6 @@ public final class ElbowQueue {
                 }
             }
             return best;
-        }
-
-        int whenIs(int one, int state) {
-            then.become(now);
-            for (int n = 0; n <= FAR; n++) {
-                if (then.where[one] == state) {
-                    return n;
-                }
-                if (then.isOver()) {
-                    return NONE;
-                }
-                then.minuteGoesBy(true);
-            }
-            return NONE;
-        }
-
-        int whenAllBelieve(int word) {
-            then.become(now);
-            for (int n = 0; n <= NEAR; n++) {
-                if (then.allBelieve(word)) {
-                    return n;
-                }
-                if (then.isOver()) {
-                    return NONE;
-                }
-                then.minuteGoesBy(true);
-            }
-            return NONE;
         }
 
         int fewestElbows(int k) {
@@ -1110,32 +1128,6 @@ public final class ElbowQueue {
                 till.minuteGoesBy(true);
             }
             return minute ? best : most;
-        }
-
-        int whenIsJustSo(Rows rows, int row, int from, int n) {
-            then.become(now);
-            for (int minutes = 0; minutes <= FAR; minutes++) {
-                if (isJustSo(rows, row, from, n)) {
-                    return minutes;
-                }
-                if (then.isOver()) {
-                    return NONE;
-                }
-                then.minuteGoesBy(true);
-            }
-            return NONE;
-        }
-
-        private boolean isJustSo(Rows rows, int row, int from, int n) {
-            if (then.size != n) {
-                return false;
-            }
-            for (int k = 0; k < n; k++) {
-                if (then.whoIsAt(k) != rows.item(row, from + k)) {
-                    return false;
-                }
-            }
-            return true;
         }
     }
 

@@ -16,6 +16,7 @@ public final class ForetoldTest {
         promise25Refusals();
         promise26and27();
         nothingChanges();
+        fullHouse();
         Check.end();
     }
 
@@ -185,6 +186,7 @@ public final class ForetoldTest {
         elbows(Check.town("q1,0;f99,0;pb1,0,2;pf9,0,9;pf9,0,3;"), 0, 1, 1, 7);
         elbows(Check.town("q0,0;f99,0;pb1,0,2;pf9,0,9;pf9,0,3;"), 0, 1, 2, 7);
         elbows(Check.town("q1,0;f99,0;pb0,0,3;pf9,0,9;pf9,0,9;"), 0, 2, 8, 8);
+        elbows(Check.town("q1,0;f99,0;pb1,0,4;pf9,0,16;pf9,0,5;"), 0, 3, 4, none);
         ElbowQueue later = Check.town("q0,0;f99,0;pf99,0,1;pf99,0,3;pf99,0,3;");
         later.minutes(1);
         elbows(later, 0, 1, 1, none);
@@ -374,5 +376,35 @@ public final class ForetoldTest {
         Check.inQueue(q, "foretold", 0, 1, 2, 3);
         Check.person(q, "foretold", 1, 1, 1, 1, 1, 3, 0);
         Check.person(q, "foretold", 4, Check.NONE, 0, 0, 0, 5, 4);
+    }
+
+    /** All 16 are in the queue: nothing may run over an end. */
+    private static void fullHouse() {
+        ElbowQueue q = Check.town("q0,0;" + EIGHT + "pf99,0,0;pf99,0,0;pf99,0,0;pf99,0,0;pf99,0,0;pf99,0,0;pf99,0,0;pf99,0,0;");
+        Check.due("12 elbows and all", q.elbows(8), 0);
+        odds(q, 16, 8, 5, 1, 256);
+        ahead(q, 8, 16, 0, 0, 0);
+        Check.due("all join", q.minutes(8), 16);
+        Check.inQueue(q, "all", 0, 1, 2, 3, 4, 5, 6, 7, 8, 9, 10, 11, 12, 13, 14, 15);
+        spread(q, 0, Check.NONE, Check.NONE, Check.NONE);
+        opens(q, 1, 30, 16);
+        opens(q, 9, 0, 7);
+        Check.due("no more passers", q.elbows(1), Check.NONE);
+        odds(q, 16, 8, 0, 1, 1);
+        Check.due("lives", q.lives(), 100);
+        Check.due("the last", q.order(60, 15), 15);
+        words(q, 15, 0, 0);
+        q.row(0, 0, 16);
+        for (int i = 0; i < 16; i++) {
+            q.set(0, i, i);
+        }
+        Check.due("seen", q.seen(0, 0, 16), 0);
+        Check.due("the last goes", q.go(15), 15);
+        Check.due("seen no more", q.seen(0, 0, 16), Check.NONE);
+        q.undo();
+        Check.due("the first goes", q.go(0), 15);
+        q.undo();
+        q.hatch(0, 1);
+        Check.due("served", q.minutes(16), 0);
     }
 }
