@@ -160,6 +160,7 @@ public final class ForetoldTest {
         spread(Check.town("q1,0;b59,0;f99,0;"), none, 60, none, none);
         spread(Check.town("q1,0;b60,0;f99,0;"), none, none, none, none);
         spread(Check.town("q0,0;pd9,3,0;"), none, none, none, 1);
+        spread(Check.town("q0,0;b9,1;d0,2;"), none, 1, none, none);
         spread(Check.town("q0,0;d2,3;d4,2;pd9,1,1;"), none, 3, none, none);
         ElbowQueue q = Check.town("q2,0;f99,0;b99,0;s99,0;b99,0;");
         q.minutes(2);
