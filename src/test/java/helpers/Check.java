@@ -5,15 +5,21 @@ final class Check {
 
     private static int wrong;
     private static int asked;
+    private static String sentence = "";
 
     private Check() {
+    }
+
+    /** What of the document is looked at from here on: it stands ahead of each wrong answer. */
+    static void sentence(String words) {
+        sentence = words + ": ";
     }
 
     static void due(String call, int got, int want) {
         asked++;
         if (got != want) {
             wrong++;
-            System.out.println(call + " answered " + got + ", due is " + want);
+            System.out.println(sentence + call + " answered " + got + ", due is " + want);
         }
     }
 
@@ -21,8 +27,13 @@ final class Check {
         asked++;
         if (!so) {
             wrong++;
-            System.out.println("not so: " + what);
+            System.out.println(sentence + "not so: " + what);
         }
+    }
+
+    /** Neither BAD, STATE, FULL nor a finding. */
+    static void taken(String call, int got) {
+        isTrue(call + " is taken, it answered " + got, got >= NONE);
     }
 
     /** Feeds a text and reads it: what town() answers. */
