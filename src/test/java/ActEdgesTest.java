@@ -51,28 +51,23 @@ public final class ActEdgesTest {
         Check.end();
     }
 
-    private static void belief(ElbowQueue q, String where, int person, int belief, int origin) {
-        Check.due(where + ": what " + person + " believes", q.person(person, 3), belief);
-        Check.due(where + ": the origin of " + person, q.person(person, 5), origin);
-    }
-
     private static void firstOnesBelieveCause() {
         Check.sentence("A first one BELIEVES what CAUSE is, whatever was told, or said");
         for (int cause = 0; cause <= 3; cause++) {
             for (int told = 0; told <= 3; told++) {
                 ElbowQueue q = Check.town("q" + cause + ",0;f9," + told + ";pf9," + told + ",9;");
-                belief(q, "told " + told, 0, cause, 0);
-                belief(q, "told " + told + ", a passer", 1, cause, 1);
+                Check.belief(q, "told " + told, 0, cause, 0);
+                Check.belief(q, "told " + told + ", a passer", 1, cause, 1);
                 Check.due("what he believed", q.say(0, 3 - told), cause);
-                belief(q, "said " + told, 0, cause, 0);
+                Check.belief(q, "said " + told, 0, cause, 0);
                 q.minutes(1);
                 q.hatch(3 - cause, 0);
-                belief(q, "a hatch", 0, 3 - cause, 0);
-                belief(q, "a hatch, a passer gone by", 1, 3 - cause, 1);
+                Check.belief(q, "a hatch", 0, 3 - cause, 0);
+                Check.belief(q, "a hatch, a passer gone by", 1, 3 - cause, 1);
                 q.undo();
-                belief(q, "no hatch", 0, cause, 0);
+                Check.belief(q, "no hatch", 0, cause, 0);
                 q.go(0);
-                belief(q, "gone", 0, cause, 0);
+                Check.belief(q, "gone", 0, cause, 0);
             }
         }
     }
@@ -81,10 +76,10 @@ public final class ActEdgesTest {
         Check.sentence("A first one (f alone)");
         for (String sort : new String[] {"b", "w", "s", "d"}) {
             ElbowQueue q = Check.town("q2,0;" + sort + "9,1;p" + sort + "9,3,9;");
-            belief(q, sort, 0, 1, 0);
-            belief(q, sort + ", a passer", 1, 3, 1);
+            Check.belief(q, sort, 0, 1, 0);
+            Check.belief(q, sort + ", a passer", 1, 3, 1);
             Check.due("said to " + sort, q.say(0, 0), 1);
-            belief(q, sort, 0, 0, 0);
+            Check.belief(q, sort, 0, 0, 0);
         }
     }
 
@@ -102,13 +97,13 @@ public final class ActEdgesTest {
         Check.sentence("one that BELIEVES something (not 0)");
         ElbowQueue q = Check.town("q0,0;b9,0;w9,3;f9,0;w9,2;d9,0;w9,1;");
         q.minutes(1);
-        belief(q, "behind a believer of nothing", 1, 3, 1);
-        belief(q, "behind a first one of nothing", 3, 2, 3);
-        belief(q, "behind a doubter of nothing", 5, 1, 5);
+        Check.belief(q, "behind a believer of nothing", 1, 3, 1);
+        Check.belief(q, "behind a first one of nothing", 3, 2, 3);
+        Check.belief(q, "behind a doubter of nothing", 5, 1, 5);
         for (int word = 1; word <= 3; word++) {
             ElbowQueue told = Check.town("q0,0;d9," + word + ";b9,0;");
             told.minutes(1);
-            belief(told, "told " + word, 1, word, 0);
+            Check.belief(told, "told " + word, 1, word, 0);
         }
     }
 
@@ -121,7 +116,7 @@ public final class ActEdgesTest {
                 q.minutes(1);
                 boolean hears = sort.equals("w") || belief == 0 && "bs".contains(sort);
                 int own = sort.equals("f") ? 1 : belief;
-                belief(q, sort + " of " + belief, 1, hears ? 2 : own, hears ? 0 : 1);
+                Check.belief(q, sort + " of " + belief, 1, hears ? 2 : own, hears ? 0 : 1);
             }
         }
     }
@@ -133,33 +128,33 @@ public final class ActEdgesTest {
             q.minutes(1);
             for (int person = 1; person <= 5; person++) {
                 boolean told = person <= minute;
-                belief(q, "minute " + minute, person, told ? 1 : 0, told ? 0 : person);
+                Check.belief(q, "minute " + minute, person, told ? 1 : 0, told ? 0 : person);
             }
         }
         ElbowQueue w = Check.town("q0,0;d99,1;w99,2;w99,3;w99,2;");
         w.minutes(1);
-        belief(w, "minute 1", 1, 1, 0);
-        belief(w, "minute 1", 2, 2, 1);
-        belief(w, "minute 1", 3, 3, 2);
+        Check.belief(w, "minute 1", 1, 1, 0);
+        Check.belief(w, "minute 1", 2, 2, 1);
+        Check.belief(w, "minute 1", 3, 3, 2);
         w.minutes(1);
-        belief(w, "minute 2", 2, 1, 0);
-        belief(w, "minute 2", 3, 2, 1);
+        Check.belief(w, "minute 2", 2, 1, 0);
+        Check.belief(w, "minute 2", 3, 2, 1);
     }
 
     private static void nobodyAheadOfTheFirst() {
         Check.sentence("each in the QUEUE who stands behind one");
         ElbowQueue q = Check.town("q0,0;w99,0;d99,3;pb99,0,0;");
         q.minutes(1);
-        belief(q, "at place 0", 0, 0, 0);
-        belief(q, "a passer who joined this minute", 2, 0, 2);
+        Check.belief(q, "at place 0", 0, 0, 0);
+        Check.belief(q, "a passer who joined this minute", 2, 0, 2);
         q.minutes(1);
-        belief(q, "a passer who stood a minute", 2, 3, 1);
+        Check.belief(q, "a passer who stood a minute", 2, 3, 1);
         ElbowQueue door = Check.town("q0,1;d99,3;b99,0;");
         door.minutes(1);
-        belief(door, "behind one who is served in the same minute", 1, 3, 0);
+        Check.belief(door, "behind one who is served in the same minute", 1, 3, 0);
         ElbowQueue leaving = Check.town("q0,0;d0,3;b0,0;");
         leaving.minutes(1);
-        belief(leaving, "behind one who leaves in the same minute", 1, 3, 0);
+        Check.belief(leaving, "behind one who leaves in the same minute", 1, 3, 0);
     }
 
     private static void serves() {
@@ -238,7 +233,7 @@ public final class ActEdgesTest {
         Check.due("he leaves then", q.minutes(1), 0);
         ElbowQueue told = Check.town("q0,0;d99,1;b0,0;b1,0;b0,0;");
         Check.due("told in the same minute, twice 0 is 0", told.minutes(1), 2);
-        belief(told, "behind one who was told", 2, 0, 2);
+        Check.belief(told, "behind one who was told", 2, 0, 2);
         ElbowQueue late = Check.town("q0,0;d99,1;b1,0;");
         Check.due("told ahead of leaving", late.minutes(2), 2);
         Check.due("he leaves then", late.minutes(1), 1);
@@ -440,8 +435,8 @@ public final class ActEdgesTest {
             for (int word = 0; word <= 3; word++) {
                 ElbowQueue q = Check.town("q0,0;b9,0;d9," + before + ";");
                 Check.due("what he believed", q.say(1, word), before);
-                belief(q, "said " + word, 1, word, 1);
-                belief(q, "nobody else", 0, 0, 0);
+                Check.belief(q, "said " + word, 1, word, 1);
+                Check.belief(q, "nobody else", 0, 0, 0);
                 Check.due("acts", q.count(7), 1);
             }
         }
@@ -451,14 +446,14 @@ public final class ActEdgesTest {
         Check.sentence("something is SAID: he BELIEVES it, by himself (ORIGIN)");
         ElbowQueue q = Check.town("q0,0;d99,2;b99,0;b99,0;");
         q.minutes(2);
-        belief(q, "told on", 2, 2, 0);
+        Check.belief(q, "told on", 2, 2, 0);
         Check.due("the same is said", q.say(2, 2), 2);
-        belief(q, "by himself", 2, 2, 2);
+        Check.belief(q, "by himself", 2, 2, 2);
         Check.due("nothing is said", q.say(1, 0), 2);
-        belief(q, "nothing, by himself", 1, 0, 1);
+        Check.belief(q, "nothing, by himself", 1, 0, 1);
         q.minutes(1);
-        belief(q, "told on again", 1, 2, 0);
-        belief(q, "his own stays", 2, 2, 2);
+        Check.belief(q, "told on again", 1, 2, 0);
+        Check.belief(q, "his own stays", 2, 2, 2);
     }
 
     /** 0 is in the queue, 1 is served, 2 has left, 3 is gone by, 4 is to come. */
@@ -638,7 +633,7 @@ public final class ActEdgesTest {
         Check.due("hatch", q.undo(), 1);
         Check.counts(q, "hatch", 0, 4, 1, 0, 3, 1, 2, 1, 0);
         Check.due("say", q.undo(), 0);
-        belief(q, "say", 1, 0, 1);
+        Check.belief(q, "say", 1, 0, 1);
         Check.due("the passer comes again", q.minutes(1), 3);
         Check.inQueue(q, "again", 0, 1, 3);
     }
@@ -667,7 +662,7 @@ public final class ActEdgesTest {
         Check.due("said", q.say(0, 1), 2);
         Check.due("acts", q.count(7), 1);
         Check.due("undone", q.undo(), 0);
-        belief(q, "undone", 0, 2, 0);
+        Check.belief(q, "undone", 0, 2, 0);
     }
 
     private static void refusedIsNoAct() {

@@ -18,46 +18,41 @@ public final class ActsTest {
         Check.end();
     }
 
-    private static void belief(ElbowQueue q, String where, int person, int belief, int origin) {
-        Check.due(where + ": what " + person + " believes", q.person(person, 3), belief);
-        Check.due(where + ": the origin of " + person, q.person(person, 5), origin);
-    }
-
     private static void toldOn() {
         ElbowQueue q = Check.town("q1,0;f99,0;b99,0;s99,0;b99,0;");
         Check.due("a minute", q.minutes(1), 4);
-        belief(q, "minute 1", 1, 1, 0);
-        belief(q, "minute 1", 2, 0, 2);
-        belief(q, "minute 1", 3, 0, 3);
+        Check.belief(q, "minute 1", 1, 1, 0);
+        Check.belief(q, "minute 1", 2, 0, 2);
+        Check.belief(q, "minute 1", 3, 0, 3);
         q.minutes(1);
-        belief(q, "minute 2", 2, 1, 0);
-        belief(q, "minute 2", 3, 0, 3);
+        Check.belief(q, "minute 2", 2, 1, 0);
+        Check.belief(q, "minute 2", 3, 0, 3);
         q.minutes(1);
-        belief(q, "minute 3", 3, 1, 0);
+        Check.belief(q, "minute 3", 3, 1, 0);
         ElbowQueue w = Check.town("q0,0;b99,1;w99,2;w99,3;w99,0;");
         w.minutes(1);
-        belief(w, "minute 1", 0, 1, 0);
-        belief(w, "minute 1", 1, 1, 0);
-        belief(w, "minute 1", 2, 2, 1);
-        belief(w, "minute 1", 3, 3, 2);
+        Check.belief(w, "minute 1", 0, 1, 0);
+        Check.belief(w, "minute 1", 1, 1, 0);
+        Check.belief(w, "minute 1", 2, 2, 1);
+        Check.belief(w, "minute 1", 3, 3, 2);
         w.minutes(1);
-        belief(w, "minute 2", 2, 1, 0);
-        belief(w, "minute 2", 3, 2, 1);
+        Check.belief(w, "minute 2", 2, 1, 0);
+        Check.belief(w, "minute 2", 3, 2, 1);
     }
 
     private static void whoTakesOn() {
         ElbowQueue q = Check.town("q3,0;d99,1;b99,2;s99,3;f99,0;d99,2;d99,0;w99,1;b99,0;");
         q.minutes(1);
-        belief(q, "believes something", 1, 2, 1);
-        belief(q, "a sunk one that believes something", 2, 3, 2);
-        belief(q, "a first one", 3, 3, 3);
-        belief(q, "a doubter", 4, 2, 4);
-        belief(q, "a doubter of nothing", 5, 0, 5);
-        belief(q, "nothing is not told on", 6, 1, 6);
-        belief(q, "of a follower", 7, 1, 6);
+        Check.belief(q, "believes something", 1, 2, 1);
+        Check.belief(q, "a sunk one that believes something", 2, 3, 2);
+        Check.belief(q, "a first one", 3, 3, 3);
+        Check.belief(q, "a doubter", 4, 2, 4);
+        Check.belief(q, "a doubter of nothing", 5, 0, 5);
+        Check.belief(q, "nothing is not told on", 6, 1, 6);
+        Check.belief(q, "of a follower", 7, 1, 6);
         ElbowQueue same = Check.town("q0,0;b99,2;w99,2;");
         same.minutes(1);
-        belief(same, "a follower takes on the same, too", 1, 2, 0);
+        Check.belief(same, "a follower takes on the same, too", 1, 2, 0);
     }
 
     private static void servedAtTheDoor() {
@@ -72,7 +67,7 @@ public final class ActsTest {
         Check.due("never", never.minutes(20), 1);
         ElbowQueue told = Check.town("q0,1;b99,1;b9,0;");
         told.minutes(1);
-        belief(told, "told on ahead of serving", 1, 1, 0);
+        Check.belief(told, "told on ahead of serving", 1, 1, 0);
         ElbowQueue last = Check.town("q0,1;d0,0;");
         last.minutes(1);
         Check.due("served ahead of leaving", last.person(0, 1), 2);
@@ -155,20 +150,20 @@ public final class ActsTest {
         Check.due("a passer, too", q.person(3, 3), 2);
         Check.due("a doubter not", q.person(2, 3), 1);
         Check.due("said", q.say(0, 3), 2);
-        belief(q, "whatever is said", 0, 2, 0);
+        Check.belief(q, "whatever is said", 0, 2, 0);
         q.hatch(1, 0);
         Check.due("the hatch", q.person(0, 3), 1);
         Check.due("to a passer", q.person(3, 3), 1);
         q.minutes(1);
-        belief(q, "told on", 1, 1, 0);
+        Check.belief(q, "told on", 1, 1, 0);
         q.hatch(3, 0);
-        belief(q, "what was told on stays", 1, 1, 0);
+        Check.belief(q, "what was told on stays", 1, 1, 0);
         q.go(0);
         Check.due("gone", q.person(0, 3), 3);
         ElbowQueue none = Check.town("q0,0;f9,3;b9,0;");
         none.minutes(1);
-        belief(none, "no cause", 0, 0, 0);
-        belief(none, "nothing told on", 1, 0, 1);
+        Check.belief(none, "no cause", 0, 0, 0);
+        Check.belief(none, "nothing told on", 1, 0, 1);
     }
 
     private static void promise9Refusals() {
@@ -195,15 +190,15 @@ public final class ActsTest {
     private static void promise10() {
         ElbowQueue q = Check.town("q0,0;b9,1;d9,2;w9,0;pb9,0,9;");
         Check.due("said", q.say(0, 3), 1);
-        belief(q, "said", 0, 3, 0);
+        Check.belief(q, "said", 0, 3, 0);
         Check.due("said to a doubter", q.say(1, 0), 2);
-        belief(q, "said to a doubter", 1, 0, 1);
+        Check.belief(q, "said to a doubter", 1, 0, 1);
         Check.due("acts", q.count(7), 2);
         q.say(1, 2);
         q.minutes(1);
-        belief(q, "told on", 2, 2, 1);
+        Check.belief(q, "told on", 2, 2, 1);
         Check.due("said by himself", q.say(2, 2), 2);
-        belief(q, "said by himself", 2, 2, 2);
+        Check.belief(q, "said by himself", 2, 2, 2);
         Check.due("belief 4", q.say(0, 4), Check.BAD);
         Check.due("belief -1", q.say(0, -1), Check.BAD);
         Check.due("person 4", q.say(4, 0), Check.BAD);
@@ -255,9 +250,9 @@ public final class ActsTest {
         q.go(1);
         Check.due("go undone", q.undo(), 4);
         Check.inQueue(q, "go undone", 1, 3);
-        belief(q, "go undone", 1, 3, 1);
+        Check.belief(q, "go undone", 1, 3, 1);
         Check.due("say undone", q.undo(), 3);
-        belief(q, "say undone", 1, 1, 0);
+        Check.belief(q, "say undone", 1, 1, 0);
         Check.due("hatch undone", q.undo(), 2);
         Check.counts(q, "hatch undone", 0, 4, 1, 2, 2, 1, 2, 2, 0);
         Check.due("minute undone", q.undo(), 1);
@@ -267,7 +262,7 @@ public final class ActsTest {
         Check.due("minute undone", q.undo(), 0);
         Check.inQueue(q, "at first", 0, 1, 2);
         Check.person(q, "at first", 3, Check.NONE, 0, 0, 0, 5, 3);
-        belief(q, "at first", 1, 0, 1);
+        Check.belief(q, "at first", 1, 0, 1);
         Check.counts(q, "at first", 0, 4, 1, 0, 3, 1, 2, 0, 0);
         Check.due("none more", q.undo(), Check.STATE);
         Check.due("goes on", q.minutes(1), 3);

@@ -1,5 +1,5 @@
 /** Boundary cases of promises 16 to 27 and of what is FORETOLD, a test for each sentence. */
-public final class ForetoldEdgesTest {
+public final class ForetoldEdgesTest extends ForetoldAnswers {
     private static final int NONE = Check.NONE;
     private static final String EIGHT = "b99,1;".repeat(8), PASSERS = "pb99,1,0;".repeat(8);
 
@@ -76,12 +76,6 @@ public final class ForetoldEdgesTest {
         aheadOf((q, what) -> q.ahead(0, what), "ahead");
     }
 
-    private static void ahead(ElbowQueue q, int n, int... want) {
-        for (int what = 0; what < want.length; what++) {
-            Check.due("ahead(" + n + ", " + what + ")", q.ahead(n, what), want[what]);
-        }
-    }
-
     private static void aheadNowAndLast() {
         Check.sentence("Promise 16: Behind n MINUTES: 0 is now, 60 the last");
         ElbowQueue q = Check.town("q0,0;f59,0;f60,0;f99,0;pf9,0,16;");
@@ -155,10 +149,6 @@ public final class ForetoldEdgesTest {
         Check.due("seen", q.seen(0, 0, 0), 0);
     }
 
-    private static void lives(String town, int want) {
-        Check.due("lives of " + town, Check.town(town).lives(), want);
-    }
-
     private static void livesNow() {
         Check.sentence("LIVES: behind how many (0 to 200): 0 is now");
         lives("q0,0;", 0);
@@ -195,11 +185,6 @@ public final class ForetoldEdgesTest {
         lives("q0,0;d0,0;pf9,0,16;pf9,0,16;", 2);
         lives("q0,0;d0,0;pf9,0,16;pf9,0,0;", 12);
         lives("q0,0;pd0,0,0;", 2);
-    }
-
-    private static void words(ElbowQueue q, String where, int k, int longest, int shortest) {
-        Check.due(where + " words(" + k + ", 0)", q.words(k, 0), longest);
-        Check.due(where + " words(" + k + ", 1)", q.words(k, 1), shortest);
     }
 
     private static void wordsNumbers() {
@@ -243,11 +228,6 @@ public final class ForetoldEdgesTest {
         Check.due("lives then", q.lives(), 200);
         words(Check.town("q0,0;s99,1;s99,1;"), "all are NONE", 0, 0, 0);
         words(Check.town("q0,0;s99,0;"), "199 or NONE", 0, 1, 0);
-    }
-
-    private static void served(ElbowQueue q, int person, int served, int left) {
-        Check.due("served(" + person + ", 0)", q.served(person, 0), served);
-        Check.due("served(" + person + ", 1)", q.served(person, 1), left);
     }
 
     private static void servedNumbers() {
@@ -315,12 +295,6 @@ public final class ForetoldEdgesTest {
         served(q, 1, NONE, NONE);
     }
 
-    private static void spread(ElbowQueue q, int... want) {
-        for (int belief = 0; belief < want.length; belief++) {
-            Check.due("spread(" + belief + ")", q.spread(belief), want[belief]);
-        }
-    }
-
     private static void spreadNumbers() {
         Check.sentence("Promise 21: SPREAD of something (0 to 3). BAD; STATE: no TOWN (ahead of BAD)");
         edges("spread", ElbowQueue::spread).only(0, 3);
@@ -363,12 +337,6 @@ public final class ForetoldEdgesTest {
         spread(Check.town("q0,0;d9,1;d9,1;d9,2;"), NONE, NONE, NONE, NONE);
         spread(Check.town("q0,0;d9,2;d9,1;d9,1;"), NONE, NONE, NONE, NONE);
         spread(Check.town("q0,0;d0,2;d9,1;d9,1;"), NONE, 1, NONE, NONE);
-    }
-
-    private static void elbows(ElbowQueue q, String where, int... want) {
-        for (int k = 0; k < want.length; k++) {
-            Check.due(where + ", elbows(" + k + ")", q.elbows(k), want[k]);
-        }
     }
 
     private static void elbowsNumbers() {
@@ -425,12 +393,6 @@ public final class ForetoldEdgesTest {
         aheadOf((q, n) -> q.grows(4, n, 5, 0), "grows");
         aheadOf((q, c) -> q.grows(4, 4, c, 0), "grows");
         aheadOf((q, what) -> q.grows(4, 4, 5, what), "grows");
-    }
-
-    private static void odds(ElbowQueue q, int k, int n, int c, int above, int below) {
-        String call = "grows(" + k + ", " + n + ", " + c + ", ";
-        Check.due(call + "0)", q.grows(k, n, c, 0), above);
-        Check.due(call + "1)", q.grows(k, n, c, 1), below);
     }
 
     private static void growsInLowestTerms() {
@@ -499,11 +461,6 @@ public final class ForetoldEdgesTest {
         q.minutes(1);
         odds(q, 3, 1, 5, 1, 1);
         odds(q, 1, 7, 5, 0, 1);
-    }
-
-    private static void opens(ElbowQueue q, int s, int minute, int many) {
-        Check.due("opens(" + s + ", 0)", q.opens(s, 0), minute);
-        Check.due("opens(" + s + ", 1)", q.opens(s, 1), many);
     }
 
     private static void opensNumbers() {

@@ -1,5 +1,5 @@
 /** Promises 16 to 27: what is foretold, which changes nothing, and images. */
-public final class ForetoldTest {
+public final class ForetoldTest extends ForetoldAnswers {
     private static final String EIGHT = "f99,0;f99,0;f99,0;f99,0;f99,0;f99,0;f99,0;f99,0;";
 
     public static void main(String[] args) {
@@ -18,12 +18,6 @@ public final class ForetoldTest {
         nothingChanges();
         fullHouse();
         Check.end();
-    }
-
-    private static void ahead(ElbowQueue q, int n, int... want) {
-        for (int what = 0; what < want.length; what++) {
-            Check.due("ahead(" + n + ", " + what + ")", q.ahead(n, what), want[what]);
-        }
     }
 
     private static void promise16and17() {
@@ -55,10 +49,6 @@ public final class ForetoldTest {
         Check.due("from now on", q.order(3, 0), 5);
     }
 
-    private static void lives(String town, int want) {
-        Check.due("lives of " + town, Check.town(town).lives(), want);
-    }
-
     private static void promise18() {
         lives("q0,0;", 0);
         lives("q0,0;f0,0;", 1);
@@ -76,11 +66,6 @@ public final class ForetoldTest {
         Check.due("from now on", q.lives(), 4);
         q.go(0);
         Check.due("now", q.lives(), 0);
-    }
-
-    private static void words(ElbowQueue q, int k, int longest, int shortest) {
-        Check.due("words(" + k + ", 0)", q.words(k, 0), longest);
-        Check.due("words(" + k + ", 1)", q.words(k, 1), shortest);
     }
 
     private static void promise19() {
@@ -115,11 +100,6 @@ public final class ForetoldTest {
         words(kept, 0, 1, 0);
     }
 
-    private static void served(ElbowQueue q, int person, int served, int left) {
-        Check.due("served(" + person + ", 0)", q.served(person, 0), served);
-        Check.due("served(" + person + ", 1)", q.served(person, 1), left);
-    }
-
     private static void promise20() {
         ElbowQueue q = Check.town("q0,3;f9,0;d2,0;f9,0;f6,0;pf9,0,9;pf9,0,3;");
         served(q, 0, 3, Check.NONE);
@@ -145,12 +125,6 @@ public final class ForetoldTest {
         served(far, 2, Check.NONE, Check.NONE);
     }
 
-    private static void spread(ElbowQueue q, int... want) {
-        for (int belief = 0; belief < want.length; belief++) {
-            Check.due("spread(" + belief + ")", q.spread(belief), want[belief]);
-        }
-    }
-
     private static void promise21() {
         int none = Check.NONE;
         spread(Check.town("q0,0;"), none, none, none, none, Check.BAD);
@@ -166,12 +140,6 @@ public final class ForetoldTest {
         q.minutes(2);
         spread(q, none, none, 1, none);
         Check.due("belief -1", q.spread(-1), Check.BAD);
-    }
-
-    private static void elbows(ElbowQueue q, int... want) {
-        for (int k = 0; k < want.length; k++) {
-            Check.due("elbows(" + k + ")", q.elbows(k), want[k]);
-        }
     }
 
     private static void promise22() {
@@ -200,12 +168,6 @@ public final class ForetoldTest {
         elbows(Check.town("q0,1;" + EIGHT + passers), 0, 9, 9, 9, 9, 9, 9, 9, 9);
         String needs = "pf99,0,15;pf99,0,15;pf99,0,16;pf99,0,16;pf99,0,16;pf99,0,16;pf99,0,16;pf99,0,16;";
         elbows(Check.town("q0,1;" + EIGHT + needs), 0, 8, 8, 9, 9, 9, 9, 9, 9);
-    }
-
-    private static void odds(ElbowQueue q, int k, int n, int c, int above, int below) {
-        String call = "grows(" + k + ", " + n + ", " + c + ", ";
-        Check.due(call + "0)", q.grows(k, n, c, 0), above);
-        Check.due(call + "1)", q.grows(k, n, c, 1), below);
     }
 
     private static void promise23() {
@@ -240,11 +202,6 @@ public final class ForetoldTest {
         Check.due("c -1", q.grows(0, 0, -1, 0), Check.BAD);
         Check.due("what 2", q.grows(0, 0, 0, 2), Check.BAD);
         Check.due("what -1", q.grows(0, 0, 0, -1), Check.BAD);
-    }
-
-    private static void opens(ElbowQueue q, int s, int minute, int many) {
-        Check.due("opens(" + s + ", 0)", q.opens(s, 0), minute);
-        Check.due("opens(" + s + ", 1)", q.opens(s, 1), many);
     }
 
     private static void promise24() {

@@ -59,6 +59,11 @@ final class Check {
         }
     }
 
+    static void belief(ElbowQueue queue, String where, int person, int belief, int origin) {
+        due(where + ": what " + person + " believes", queue.person(person, 3), belief);
+        due(where + ": the origin of " + person, queue.person(person, 5), origin);
+    }
+
     static void inQueue(ElbowQueue queue, String where, int... want) {
         for (int k = 0; k < want.length; k++) {
             due(where + " place(" + k + ")", queue.place(k), want[k]);
