@@ -128,25 +128,31 @@ public final class ForetoldEdgesTest extends ForetoldAnswers {
         Check.due("nobody", Check.town("q0,0;").order(0, 0), NONE);
     }
 
-    /** At MINUTE 999 no minute can go by any more, but what would be can be foretold. */
+    /** Six followers stay for ever; when the door takes one of them, at minute 1008, five are no crowd and leave. */
     private static void foretoldBeyondTheLastMinute() {
         Check.sentence("FORETOLD, behind n MINUTES from now on: FULL is told for minutes() alone");
-        ElbowQueue q = Check.town("q0,0;");
+        ElbowQueue q = Check.town("q0,0;" + "w0,0;".repeat(6));
         for (int n = 0; n < 49; n++) {
             q.minutes(20);
         }
-        q.minutes(19);
+        Check.due("six at 999", q.minutes(19), 6);
         Check.due("minutes", q.minutes(1), Check.FULL);
-        Check.due("ahead", q.ahead(60, 0), 0);
-        Check.due("order", q.order(60, 0), NONE);
-        Check.due("lives", q.lives(), 0);
-        Check.due("words", q.words(0, 0), NONE);
-        Check.due("spread", q.spread(0), NONE);
-        Check.due("elbows", q.elbows(0), 0);
-        Check.due("grows", q.grows(0, 8, 5, 1), 1);
-        Check.due("opens", q.opens(1, 0), 30);
+        q.hatch(0, 9);
+        ahead(q, 8, 6, 0, 0, 0);
+        ahead(q, 9, 0, 1, 5, 0);
+        ahead(q, 60, 0, 1, 5, 0);
+        Check.due("order", q.order(8, 5), 5);
+        Check.due("lives", q.lives(), 9);
+        words(q, 5, 0, 0);
+        served(q, 0, 9, NONE);
+        served(q, 5, NONE, 9);
+        spread(q, 0, NONE, NONE, NONE);
+        elbows(q, 0, NONE);
+        odds(q, 6, 8, 5, 1, 1);
+        opens(q, 9, 30, 1);
         q.row(0, 0, 0);
-        Check.due("seen", q.seen(0, 0, 0), 0);
+        Check.due("seen", q.seen(0, 0, 0), 9);
+        Check.due("still 999", q.count(3), 999);
     }
 
     private static void livesNow() {
