@@ -859,17 +859,16 @@ public final class ElbowQueue {
         }
 
         private int bears(int one) {
+            int kind = told.kinds[one];
             int patience = told.patience[one];
-            switch (told.kinds[one]) {
-                case FIRST: return patience;
-                case DOUBTER: return patience / 2;
-                case SUNK: return hoped(one, patience) + stood[one] / 2;
-                default: return hoped(one, patience);
+            if (kind == FIRST) {
+                return patience;
             }
-        }
-
-        private int hoped(int one, int patience) {
-            return belief[one] == 0 ? patience : 2 * patience;
+            if (kind == DOUBTER) {
+                return patience / 2;
+            }
+            int hoping = belief[one] == 0 ? patience : 2 * patience;
+            return kind == SUNK ? hoping + stood[one] / 2 : hoping;
         }
 
         private void meetPasser(boolean isThere) {
